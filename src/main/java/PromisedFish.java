@@ -43,7 +43,6 @@ public final class PromisedFish {
 
     private final Quay now = new Quay();
     private final Quay kept = new Quay();
-    private final Thoughts thoughts = new Thoughts(now);
     private final Reader reader = new Reader();
     private final Voices voices = new Voices();
     private final Sheet[] sheets = new Sheet[SHEETS];
@@ -235,15 +234,15 @@ public final class PromisedFish {
         if (!isFish(fish)) {
             return refuse(BEYOND);
         }
-        return thoughts.safest(fish);
+        return Thoughts.safest(now, fish);
     }
 
     public int best(int fish, int what) {
         if (!isFish(fish) || !isWithin(what, 1)) {
             return refuse(BEYOND);
         }
-        int n = thoughts.bestToSell(fish);
-        return what == 0 ? n : thoughts.gain(fish, n);
+        int n = Thoughts.bestToSell(now, fish);
+        return what == 0 ? n : Thoughts.gain(now, fish, n);
     }
 
     public int agrees(int fish, int what) {
@@ -251,9 +250,9 @@ public final class PromisedFish {
             return refuse(BEYOND);
         }
         if (what == 0) {
-            return thoughts.howManyAgree(fish);
+            return Thoughts.howManyAgree(now, fish);
         }
-        int least = thoughts.leastThatAgrees(fish);
+        int least = Thoughts.leastThatAgrees(now, fish);
         return least < 0 ? refuse(NONE) : least;
     }
 
@@ -261,7 +260,7 @@ public final class PromisedFish {
         if (!isWithin(what, 1)) {
             return refuse(BEYOND);
         }
-        int set = thoughts.fewestBoats();
+        int set = Thoughts.fewestBoats(now);
         if (set < 0) {
             return refuse(NONE);
         }
@@ -272,7 +271,7 @@ public final class PromisedFish {
         if (!isFish(fish) || !isWithin(n, MOST_SOLD)) {
             return refuse(BEYOND);
         }
-        int days = thoughts.daysUntil(fish, n);
+        int days = Thoughts.daysUntil(now, fish, n);
         return days < 0 ? refuse(NONE) : days;
     }
 
@@ -280,14 +279,14 @@ public final class PromisedFish {
         if (!isFish(fish) || !isWithin(n, MOST_SOLD) || !isWithin(part, 1)) {
             return refuse(BEYOND);
         }
-        return Thoughts.partOfTenths(thoughts.seasThatDo(fish, n), part);
+        return Thoughts.partOfTenths(Thoughts.seasThatDo(now, fish, n), part);
     }
 
     public int mean(int fish, int part) {
         if (!isFish(fish) || !isWithin(part, 1)) {
             return refuse(BEYOND);
         }
-        return Thoughts.partOfTenths(thoughts.caughtInAllSeas(fish), part);
+        return Thoughts.partOfTenths(Thoughts.caughtInAllSeas(now, fish), part);
     }
 
     public int fits(int sheet, int what) {
@@ -297,7 +296,7 @@ public final class PromisedFish {
         if (sheets[sheet].isMissing()) {
             return refuse(NONE);
         }
-        int seas = thoughts.seasThatFit(sheets[sheet]);
+        int seas = Thoughts.seasThatFit(now, sheets[sheet]);
         if (what == 0) {
             return seas;
         }
@@ -698,22 +697,16 @@ public final class PromisedFish {
     private static final class Thoughts {
         private static final int FARTHEST = 60;
 
-        private final Quay quay;
-
-        private Thoughts(Quay quay) {
-            this.quay = quay;
-        }
-
-        private int safest(int fish) {
+        private static int safest(Quay quay, int fish) {
             for (int n = MOST_SOLD; n > 0; n--) {
-                if (isSafe(fish, n)) {
+                if (isSafe(quay, fish, n)) {
                     return n;
                 }
             }
             return 0;
         }
 
-        private boolean isSafe(int fish, int n) {
+        private static boolean isSafe(Quay quay, int fish, int n) {
             for (int sea = 0; sea < SEAS; sea++) {
                 if (quay.caught(fish, n, sea, quay.day) < n) {
                     return false;
@@ -722,11 +715,11 @@ public final class PromisedFish {
             return true;
         }
 
-        private int bestToSell(int fish) {
+        private static int bestToSell(Quay quay, int fish) {
             int best = 0;
-            int most = gain(fish, 0);
+            int most = gain(quay, fish, 0);
             for (int n = 1; n <= MOST_SOLD; n++) {
-                int gained = gain(fish, n);
+                int gained = gain(quay, fish, n);
                 if (gained > most) {
                     most = gained;
                     best = n;
@@ -735,7 +728,7 @@ public final class PromisedFish {
             return best;
         }
 
-        private int gain(int fish, int n) {
+        private static int gain(Quay quay, int fish, int n) {
             int all = SEAS * n * quay.coins(fish, 0);
             for (int sea = 0; sea < SEAS; sea++) {
                 int less = Math.max(0, n - quay.caught(fish, n, sea, quay.day));
@@ -744,23 +737,23 @@ public final class PromisedFish {
             return all;
         }
 
-        private boolean agreesWithItself(int fish, int n) {
+        private static boolean agreesWithItself(Quay quay, int fish, int n) {
             return quay.caught(fish, n, quay.waves, quay.day) == n;
         }
 
-        private int howManyAgree(int fish) {
+        private static int howManyAgree(Quay quay, int fish) {
             int many = 0;
             for (int n = 0; n <= MOST_SOLD; n++) {
-                if (agreesWithItself(fish, n)) {
+                if (agreesWithItself(quay, fish, n)) {
                     many++;
                 }
             }
             return many;
         }
 
-        private int leastThatAgrees(int fish) {
+        private static int leastThatAgrees(Quay quay, int fish) {
             for (int n = 0; n <= MOST_SOLD; n++) {
-                if (agreesWithItself(fish, n)) {
+                if (agreesWithItself(quay, fish, n)) {
                     return n;
                 }
             }
@@ -768,18 +761,18 @@ public final class PromisedFish {
         }
 
         /** The set of BOATS; -1, if not even all together do. */
-        private int fewestBoats() {
+        private static int fewestBoats(Quay quay) {
             int best = -1;
             for (int set = 0; set < 1 << quay.boats; set++) {
                 boolean fewer = best < 0 || Integer.bitCount(set) < Integer.bitCount(best);
-                if (fewer && isEnough(set)) {
+                if (fewer && isEnough(quay, set)) {
                     best = set;
                 }
             }
             return best;
         }
 
-        private boolean isEnough(int set) {
+        private static boolean isEnough(Quay quay, int set) {
             for (int fish = 0; fish < FISH; fish++) {
                 int all = 0;
                 for (int i = 0; i < quay.boats; i++) {
@@ -795,7 +788,7 @@ public final class PromisedFish {
         }
 
         /** -1, if it is not by the farthest day. */
-        private int daysUntil(int fish, int n) {
+        private static int daysUntil(Quay quay, int fish, int n) {
             for (int days = 0; days <= FARTHEST; days++) {
                 if (quay.caught(fish, n, quay.waves, quay.day + days) >= n) {
                     return days;
@@ -804,7 +797,7 @@ public final class PromisedFish {
             return -1;
         }
 
-        private int seasThatDo(int fish, int n) {
+        private static int seasThatDo(Quay quay, int fish, int n) {
             int many = 0;
             for (int sea = 0; sea < SEAS; sea++) {
                 if (quay.caught(fish, n, sea, quay.day) >= n) {
@@ -814,7 +807,7 @@ public final class PromisedFish {
             return many;
         }
 
-        private int caughtInAllSeas(int fish) {
+        private static int caughtInAllSeas(Quay quay, int fish) {
             int all = 0;
             for (int sea = 0; sea < SEAS; sea++) {
                 all += quay.caught(fish, quay.sold[fish], sea, quay.day);
@@ -822,17 +815,17 @@ public final class PromisedFish {
             return all;
         }
 
-        private int seasThatFit(Sheet sheet) {
+        private static int seasThatFit(Quay quay, Sheet sheet) {
             int seas = 0;
             for (int sea = 0; sea < SEAS; sea++) {
-                if (isSoBy(sheet, sea)) {
+                if (isSoBy(quay, sheet, sea)) {
                     seas |= 1 << sea;
                 }
             }
             return seas;
         }
 
-        private boolean isSoBy(Sheet sheet, int sea) {
+        private static boolean isSoBy(Quay quay, Sheet sheet, int sea) {
             if (sheet.length > FISH) {
                 return false;
             }
@@ -935,14 +928,14 @@ public final class PromisedFish {
 
         private final int[] code = new int[TAPE];
         private int written;
-        private int[] tape = code;
+        private final int[] tape = new int[TAPE];
         private int end;
         private int place;
         private int use;
 
         private int faultIn(int[] bytes, int many, int ofUse) {
-            tape = bytes;
-            end = Math.min(many, bytes.length);
+            end = held(many, 0, Math.min(TAPE, bytes.length));
+            System.arraycopy(bytes, 0, tape, 0, end);
             use = ofUse;
             place = 0;
             written = 0;

@@ -238,6 +238,10 @@ public final class EveningsTest {
         x.loose(8);
         due.is("DAY", x.count(2), 9998);
         due.is("loose(2)", x.loose(2), Due.STATE);
+        x.image();
+        due.is("loose(1), to the last DAY", x.loose(1) >= 0 ? 1 : 0, 1);
+        due.is("DAY", x.count(2), 9999);
+        x.restore();
         x.tally();
         due.is("DAY", x.count(2), 9999);
         int z = x.count(9);

@@ -91,6 +91,7 @@ public final class ImagesTest {
         Due.text(x, 1, "99");
         x.sell(0, 99);
         x.loose(20);
+        x.rises(9);
         x.feed(0, 8);
         x.price(3, 9);
         x.price(2, 0);

@@ -70,6 +70,7 @@ public final class ThoughtsTest {
         Due.text(x, 0, "n-1");
         due.is("safe(0), 0 always is", x.safe(0), 0);
         due.is("DAY counts: safe(1)", lugger(3).safe(1), 4);
+        due.is("safe(0) of 1 in the worst sea", fleet(10).safe(0), 1);
     }
 
     private static PromisedFish lugger(int days) {
@@ -116,6 +117,9 @@ public final class ThoughtsTest {
         Due.text(x, 0, "n*(n>89)*(s<9)");
         due.is("best(0, 0), it lands from 90 on", x.best(0, 0), 99);
         due.is("best(0, 1)", x.best(0, 1), 990 - 2 * 99);
+        Due.text(x, 0, "1");
+        due.is("best(0, 0) of 1 in any sea", x.best(0, 0), 1);
+        due.is("best(0, 1) of 1 in any sea", x.best(0, 1), 10);
         Due.text(x, 0, "50");
         due.is("best(0, 0) of 50 in any sea", x.best(0, 0), 50);
         due.is("best(0, 1) of 50 in any sea", x.best(0, 1), 500);
@@ -167,6 +171,8 @@ public final class ThoughtsTest {
         int[][] rows = {{1, 1, 1}, {5, 1, 1}, {6, 1, 2}, {8, 1, 2}, {9, 1, 8}, {10, 1, 8}, {11, 2, 3}, {14, 2, 9},
             {16, 2, 10}, {18, 2, 10}, {19, 3, 11}, {26, 3, 26}, {27, 4, 15}, {28, 4, 15}, {29, 4, 27}, {31, 4, 27}, {32, 5, 31}, {36, 5, 31},
             {37, 6, 63}, {38, 6, 63}};
+        due.is("needs(0) for nothing", x.needs(0), 0);
+        due.is("needs(1) for nothing", x.needs(1), 0);
         x.image();
         for (int[] row : rows) {
             x.restore();
@@ -291,6 +297,9 @@ public final class ThoughtsTest {
         due.is("fits(0, 0)", x.fits(0, 0), 8);
         due.is("fits(0, 1)", x.fits(0, 1), 3);
         due.is("told(2)", x.told(2), 6);
+        x.put(0, 0, 20);
+        due.is("fits(0, 0), the first being wrong", x.fits(0, 0), 0);
+        x.put(0, 0, 21);
         x.sheet(1, 16, 5);
         x.move(0, 0, 1, 0, 4);
         due.is("fits(1, 0), of five FISH", x.fits(1, 0), 0);
