@@ -38,9 +38,10 @@ public final class ModelTest {
         due.is(name, got, want);
     }
 
-    /** A number from 0 to most, at times one far from these. */
+    /** A number from 0 to most, at times the one behind these, or one far from them. */
     private static int any(int most) {
-        return draws.nextInt(25) == 0 ? ODD_ONES[draws.nextInt(ODD_ONES.length)] : draws.nextInt(most + 1);
+        int kind = draws.nextInt(40);
+        return kind == 0 ? most + 1 : kind == 1 ? ODD_ONES[draws.nextInt(ODD_ONES.length)] : draws.nextInt(most + 1);
     }
 
     private static int x() {
