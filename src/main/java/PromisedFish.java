@@ -1054,7 +1054,7 @@ public final class PromisedFish {
         }
     }
 
-    /** The VOICES of a BOAT, and THE TRACE of the latest that did not part. */
+    /** The VOICES of a BOAT, and THE TRACE of the latest one, also if it parted. */
     private static final class Voices {
         private static final int VOICES = 4;
         private static final int CALLS = 0;
@@ -1075,8 +1075,6 @@ public final class PromisedFish {
 
         private final int[] trace = new int[TRACE];
         private int traced;
-        private final int[] began = new int[TRACE];
-        private int begun;
         private boolean parted;
         private int kind;
         private int k;
@@ -1086,18 +1084,16 @@ public final class PromisedFish {
             kind = boat.kind;
             m = boat.m;
             k = number;
-            begun = 0;
+            traced = 0;
             parted = false;
-            int said = speak(kind, voice, x, 0);
-            if (!parted) {
-                System.arraycopy(began, 0, trace, 0, TRACE);
-                traced = begun;
-            }
-            return said;
+            return speak(kind, voice, x, 0);
         }
 
-        /** The BODY for a VOICE from a KIND on upwards. */
+        /** The BODY for a VOICE from a KIND on upwards; once parted none begins, as PARTED is all the answer. */
         private int speak(int from, int voice, int x, int depth) {
+            if (parted) {
+                return 0;
+            }
             int of = from;
             for (int up = 0; up < KINDS && of > 0 && BODIES[of * VOICES + voice] == 0; up++) {
                 of = ABOVE[of];
@@ -1106,9 +1102,9 @@ public final class PromisedFish {
                 return 0;
             }
             int body = BODIES[of * VOICES + voice];
-            if (begun < TRACE) {
-                began[begun] = body;
-                begun++;
+            if (traced < TRACE) {
+                trace[traced] = body;
+                traced++;
             }
             return say(body, ABOVE[of], x, depth + 1);
         }

@@ -49,9 +49,12 @@ final class Model {
     long[][] sheets = new long[4][];
     int[] bits = new int[4];
     List<Integer> trace = new ArrayList<>();
-    List<Integer> speaking = new ArrayList<>();
-    boolean parted;
     int[] told = new int[7];
+
+    /** Ends a voice() where it parts; what stands left of that has been spoken, what stands right never is. */
+    static final class Parted extends RuntimeException {
+        private static final long serialVersionUID = 1;
+    }
 
     int err(int k) {
         told[k]++;
@@ -564,23 +567,27 @@ final class Model {
             return err(1);
         }
         int[] b = now.boats.get(boat);
-        speaking = new ArrayList<>();
-        parted = false;
+        trace = new ArrayList<>();
         Hull[] hulls = {new Hull(), new Smack(), new Skiff(), new Drifter(), new Lugger(), new Coble(), new Trawler()};
         Hull hull = hulls[b[0]];
         hull.k = boat;
         hull.m = b[1];
-        int said = switch (voice) {
-            case 0 -> hull.calls(x);
-            case 1 -> hull.hauls(x);
-            case 2 -> hull.lets(x);
-            default -> hull.parts(x);
-        };
-        if (parted) {
+        try {
+            return switch (voice) {
+                case 0 -> hull.calls(x);
+                case 1 -> hull.hauls(x);
+                case 2 -> hull.lets(x);
+                default -> hull.parts(x);
+            };
+        } catch (Parted end) {
             return err(6);
         }
-        trace = speaking.subList(0, Math.min(30, speaking.size()));
-        return said;
+    }
+
+    void begins(int body) {
+        if (trace.size() < 30) {
+            trace.add(body);
+        }
     }
 
     class Hull {
@@ -588,37 +595,39 @@ final class Model {
         int m;
 
         int calls(int x) {
-            speaking.add(10);
+            begins(10);
             return x + k;
         }
 
         int hauls(int x) {
-            speaking.add(11);
+            begins(11);
             return calls(x) * 2;
         }
 
         int lets(int x) {
-            speaking.add(12);
+            begins(12);
             return hauls(x) - m;
         }
 
         int parts(int x) {
-            speaking.add(13);
-            parted |= m == k;
-            return m == k ? 0 : x / (m - k);
+            begins(13);
+            if (m == k) {
+                throw new Parted();
+            }
+            return x / (m - k);
         }
     }
 
     class Smack extends Hull {
         @Override
         int calls(int x) {
-            speaking.add(20);
+            begins(20);
             return super.calls(x) - 4;
         }
 
         @Override
         int parts(int x) {
-            speaking.add(21);
+            begins(21);
             return super.parts(x) + hauls(1);
         }
     }
@@ -626,7 +635,7 @@ final class Model {
     class Skiff extends Hull {
         @Override
         int hauls(int x) {
-            speaking.add(30);
+            begins(30);
             return 0 - super.hauls(x);
         }
     }
@@ -634,7 +643,7 @@ final class Model {
     class Drifter extends Hull {
         @Override
         int lets(int x) {
-            speaking.add(40);
+            begins(40);
             return super.lets(x / 2);
         }
     }
@@ -642,13 +651,13 @@ final class Model {
     class Lugger extends Smack {
         @Override
         int calls(int x) {
-            speaking.add(50);
+            begins(50);
             return super.calls(x) * 3;
         }
 
         @Override
         int lets(int x) {
-            speaking.add(51);
+            begins(51);
             return super.lets(x) ^ k;
         }
     }
@@ -656,7 +665,7 @@ final class Model {
     class Coble extends Skiff {
         @Override
         int hauls(int x) {
-            speaking.add(60);
+            begins(60);
             return super.hauls(x + 1);
         }
     }
@@ -664,13 +673,13 @@ final class Model {
     class Trawler extends Hull {
         @Override
         int calls(int x) {
-            speaking.add(70);
+            begins(70);
             return 9;
         }
 
         @Override
         int hauls(int x) {
-            speaking.add(71);
+            begins(71);
             return super.hauls(x) + m;
         }
     }

@@ -6,7 +6,10 @@ import java.util.Comparator;
 import java.util.List;
 import java.util.Random;
 
-/** No call throws for any arguments in any state, and one that answers an ERROR changes nothing but what told() tells. */
+/**
+ * No call throws for any arguments in any state, and one that answers an ERROR changes nothing but what told()
+ * tells; PARTED has a TRACE of its own all the same.
+ */
 public final class NeverThrowsTest {
     private static final int RUNS = 600;
     private static final int CALLS = 512;
@@ -46,7 +49,9 @@ public final class NeverThrowsTest {
         String name = "run " + run + ": " + call.getName() + Arrays.toString(values);
         boolean looks = draws.nextInt(8) == 0 && !call.getName().equals("told");
         int[] ahead = looks ? seen(fish) : null;
+        int[] traceAhead = looks ? trace(fish) : null;
         int errorsAhead = errors(fish);
+        int partedAhead = fish.told(6);
         try {
             call.invoke(fish, values);
         } catch (InvocationTargetException e) {
@@ -55,6 +60,9 @@ public final class NeverThrowsTest {
         }
         if (looks && errors(fish) > errorsAhead) {
             due.is(name + " answered an ERROR and changed something", Arrays.equals(seen(fish), ahead) ? 0 : 1, 0);
+            if (fish.told(6) == partedAhead) {
+                due.is(name + " answered an ERROR and changed THE TRACE", Arrays.equals(trace(fish), traceAhead) ? 0 : 1, 0);
+            }
         }
     }
 
@@ -82,12 +90,21 @@ public final class NeverThrowsTest {
         return all;
     }
 
-    /** All that calls tell which change nothing. */
+    private static int[] trace(PromisedFish fish) {
+        int[] all = new int[11];
+        for (int i = 0; i < 10; i++) {
+            all[i] = fish.body(i);
+        }
+        all[10] = fish.count(8);
+        return all;
+    }
+
+    /** All but THE TRACE that calls tell which change nothing. */
     private static int[] seen(PromisedFish fish) {
         int[] all = new int[200];
         int n = 0;
         for (int what = 0; what < 10; what++) {
-            all[n++] = fish.count(what);
+            all[n++] = what == 8 ? 0 : fish.count(what);
         }
         for (int boat = 0; boat < 6; boat++) {
             for (int what = 0; what < 8; what++) {
@@ -98,9 +115,6 @@ public final class NeverThrowsTest {
             all[n++] = fish.catches(f);
             all[n++] = fish.best(f, 1);
             all[n++] = fish.mean(f, 0);
-        }
-        for (int i = 0; i < 10; i++) {
-            all[n++] = fish.body(i);
         }
         for (int sheet = 0; sheet < 4; sheet++) {
             all[n++] = fish.fits(sheet, 0);

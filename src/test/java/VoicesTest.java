@@ -11,6 +11,7 @@ public final class VoicesTest {
         everyKind();
         wraps();
         parted();
+        traceOfParted();
         trace();
         due.end();
     }
@@ -112,15 +113,36 @@ public final class VoicesTest {
         due.is("voice(1, 3, 4): all that it answers", x.voice(1, PARTS, 4), Due.PARTED);
         due.is("voice(2, 3, 0)", x.voice(2, PARTS, 0), Due.PARTED);
         due.is("told(6)", x.told(6), 3);
-        due.promise(27);
-        due.is("an ERROR changes nothing: count(8)", x.count(8), 3);
-        due.is("body(0)", x.body(0), 12);
-        due.is("body(2)", x.body(2), 10);
-        due.promise(26);
         x.become(0, 1);
         due.is("voice(0, 3, 4)", x.voice(0, PARTS, 4), 4);
         due.is("voice(1, 0, 4)", x.voice(1, CALLS, 4), 1);
         due.is("told(6)", x.told(6), 3);
+    }
+
+    /** The BODIES that began before it parted, and none of those that an answer would have needed behind it. */
+    private static void traceOfParted() {
+        heard(1, PARTS, 7, Due.PARTED, 13);
+        heard(11, PARTS, 7, Due.PARTED, 21, 13);
+        heard(21, PARTS, 7, Due.PARTED, 13);
+        heard(31, PARTS, Integer.MIN_VALUE, Due.PARTED, 13);
+        heard(41, PARTS, 7, Due.PARTED, 21, 13);
+        heard(51, PARTS, 0, Due.PARTED, 13);
+        heard(61, PARTS, 7, Due.PARTED, 13);
+        due.promise(27);
+        PromisedFish x = new PromisedFish();
+        x.boat(10);
+        x.voice(0, LETS, 4);
+        due.is("count(8)", x.count(8), 4);
+        due.is("voice(0, 3, 4)", x.voice(0, PARTS, 4), Due.PARTED);
+        due.is("count(8) behind one that parted", x.count(8), 2);
+        due.is("body(2), of the one ahead", x.body(2), Due.NONE);
+        due.is("voice(0, 4, 4)", x.voice(0, 4, 4), Due.BEYOND);
+        due.is("BEYOND leaves THE TRACE", x.count(8), 2);
+        due.is("BEYOND leaves THE TRACE: body(1)", x.body(1), 13);
+        x.voice(0, CALLS, 4);
+        due.is("count(8) of the next one", x.count(8), 2);
+        due.is("body(0)", x.body(0), 20);
+        due.is("body(1)", x.body(1), 10);
     }
 
     private static void trace() {
@@ -137,7 +159,7 @@ public final class VoicesTest {
         due.is("body(6)", x.body(6), Due.NONE);
         x.voice(0, LETS, Integer.MIN_VALUE);
         x.voice(4, LETS, 0);
-        due.is("an ERROR leaves THE TRACE", x.count(8), 6);
+        due.is("BEYOND leaves THE TRACE", x.count(8), 6);
         x.image();
         x.voice(0, CALLS, 0);
         due.is("THE TRACE is of the latest one", x.count(8), 3);
