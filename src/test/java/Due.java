@@ -44,6 +44,24 @@ final class Due {
         return fish.text(use);
     }
 
+    /** A quay with BOATS (each told by its km). */
+    static PromisedFish fleet(int... kms) {
+        PromisedFish fish = new PromisedFish();
+        for (int km : kms) {
+            fish.boat(km);
+        }
+        return fish;
+    }
+
+    /** A part of a text, so many times. */
+    static String times(String part, int n) {
+        StringBuilder all = new StringBuilder();
+        for (int i = 0; i < n; i++) {
+            all.append(part);
+        }
+        return all.toString();
+    }
+
     void end() {
         System.out.println(test + ": " + asked + " answers, " + wrong + " not as due");
         if (wrong != 0) {

@@ -347,7 +347,8 @@ public final class RefusedTest {
         int[][] beyond = {{-1, 0, 1}, {0, -1, 1}, {0, 0, -1}, {0, 0, 5}, {4, 0, 1}, {0, 4, 1}, {1, 0, 4}, {0, 1, 4}, {5, 0, 0}, {0, 5, 0},
             {1, 0, MAX}, {MAX, 0, MAX}, {0, MAX, 1}, {MIN, 0, 1}, {0, MIN, 1}, {0, 0, MIN}};
         for (int[] row : beyond) {
-            refused(30, "move(0, " + row[0] + ", 0, " + row[1] + ", " + row[2] + ")", x -> x.move(0, row[0], 0, row[1], row[2]), Due.BEYOND);
+            String call = "move(0, " + row[0] + ", 0, " + row[1] + ", " + row[2] + ")";
+            refused(30, call, x -> x.move(0, row[0], 0, row[1], row[2]), Due.BEYOND);
         }
         refused(31, "prices(3), missing", x -> x.prices(3), Due.NONE);
         refused(32, "judge(3), missing", x -> x.judge(3), Due.NONE);
